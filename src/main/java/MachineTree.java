@@ -321,7 +321,7 @@ public final class MachineTree {
             }
             for (int i = 0; i <= depth; i++) {
                 int before = symbolIn(tapes, then * words, heads[then] - side * i);
-                if (before != symbolNow(head - side * i)) {
+                if (before != symbolIn(tape, 0, head - side * i)) {
                     return false;
                 }
             }
