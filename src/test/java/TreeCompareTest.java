@@ -1,32 +1,44 @@
 import java.util.Random;
 
-/** Promises 7 to 10 against the literal reference, behind every call of grow. */
+/** Promises 7 to 10 against the literal reference. */
 public final class TreeCompareTest {
+    // an object is used for no more calls than the document promises answers for
+    private static final int MOST_CALLS = 512;
     private static final Check CHECK = new Check();
 
     public static void main(String[] args) {
-        follow(2, 100, new Random(12));
-        follow(2, 100, null);
-        follow(3, 5000, new Random(13));
-        follow(4, 20480, null);
+        follow(2, 1, amounts(new Random(12)));
+        follow(2, 1, amounts(null));
+        follow(3, 1, amounts(new Random(13)));
+        follow(4, 31, amounts(null));
+        follow(4, 31, amounts(new Random(14)));
         CHECK.end();
     }
 
-    /** Goes through the tree by random amounts, or by 40 each time if there is no random source. */
-    private static void follow(int n, int most, Random random) {
-        MachineTree tree = new MachineTree(n);
-        Reference.Tree due = Reference.tree(n, most);
-        Tally tally = new Tally(due, n);
-        int calls = 0;
-        while (tally.taken < most && calls++ < 512) {
-            int many = random == null ? 40 : 1 + random.nextInt(40);
-            int next = tally.take(many);
-            String name = "n " + n + ", behind " + tally.taken + ": ";
-            CHECK.same(name + "grow(" + many + ")", next, tree.grow(many));
-            tally.compare(tree, name);
-            if (next == 0) {
-                break;
+    /** Random amounts for grow, or 40 each time if there is no random source. */
+    private static int[] amounts(Random random) {
+        int[] amounts = new int[MOST_CALLS];
+        for (int i = 0; i < amounts.length; i++) {
+            amounts[i] = random == null ? 40 : 1 + random.nextInt(40);
+        }
+        return amounts;
+    }
+
+    /** Looks at the counts behind so many calls of grow, behind twice as many and so on, each on a new object. */
+    private static void follow(int n, int every, int[] amounts) {
+        Reference.Tree all = Reference.tree(n, 40 * MOST_CALLS);
+        int lookingCalls = 7 + 2 * n + 1;
+        boolean more = true;
+        for (int calls = every; more && calls + lookingCalls <= MOST_CALLS; calls += every) {
+            MachineTree tree = new MachineTree(n);
+            Tally tally = new Tally(all, n);
+            int last = 0;
+            for (int i = 0; i < calls; i++) {
+                last = tally.take(amounts[i]);
+                CHECK.same("n " + n + ", call " + i + ": grow(" + amounts[i] + ")", last, tree.grow(amounts[i]));
             }
+            tally.compare(tree, "n " + n + ", behind " + tally.taken + ": ");
+            more = last > 0;
         }
     }
 
