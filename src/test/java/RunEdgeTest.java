@@ -101,6 +101,10 @@ public final class RunEdgeTest {
 
     // Terms: "behind an earlier number of steps (0 included)"
     private static void cyclesBackToStepZero() {
+        MachineTree shortest = machine(6, -1, 0, -1);
+        CHECK.same("shortest cycle, one step too few", MachineTree.OPEN, shortest.run(1));
+        CHECK.same("shortest cycle", MachineTree.CYCLES, shortest.run(2));
+        figures("shortest cycle", shortest, 2, 2, 2, 0, 0, 0, 0, 0, 1);
         MachineTree x = machine(7, -1, 9, 11, 14, 8, 4, 2);
         CHECK.same("cycle to 0, one step too few", MachineTree.OPEN, x.run(37));
         CHECK.same("cycle to 0: period", 0, x.figure(2));

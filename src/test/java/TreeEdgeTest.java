@@ -16,6 +16,7 @@ public final class TreeEdgeTest {
         noStateMoreThanThereAre();
         noChildrenOfTheFullest();
         openBehindAHundredAndTwentySteps();
+        decidedLate();
         theFirstOfSeveralChampions();
         onesAreThoseOfTheChampion();
         theLastPromisedCall();
@@ -104,6 +105,18 @@ public final class TreeEdgeTest {
         MachineTree all = new MachineTree(3);
         while (all.grow(40) > 0) { }
         taken("all of three states", all, 63, 1379, 361, 2254, 21, 5, 6);
+    }
+
+    // within 512 calls, no machine is decided later than this one, behind its step 86
+    private static void decidedLate() {
+        MachineTree x = new MachineTree(4);
+        for (int i = 0; i < 65; i++) {
+            grow(x, 40);
+        }
+        grow(x, 22);
+        int before = x.taken(3);
+        grow(x, 1);
+        CHECK.same("machine 2623 drifts", before + 1, x.taken(3));
     }
 
     // Terms: "the machine taken that halted with the most steps, the first of several"; 16 is the first with 6
